@@ -990,19 +990,16 @@ public final class HoldTwo {
             tape.need('y');
             tape.need(':');
             int sign = tape.peek();
-            boolean asks = sign == '!' || sign == '(';
-            if (!asks) {
+            boolean begun = sign != '!' && sign != '(';
+            if (begun) {
                 readSum(tape, 0);
                 // only the sign behind the sum tells whether a condition has begun with it
-                asks = comparison(tape.peek()) != NONE;
-                if (!asks) {
+                if (comparison(tape.peek()) == NONE) {
                     write(ANSWER);
                     return;
                 }
-                readCondition(tape, 0, true);
-            } else {
-                readCondition(tape, 0, false);
             }
+            readCondition(tape, 0, begun);
             tape.need('?');
             write(TEST);
             int leap = length;

@@ -43,6 +43,13 @@ public final class FaceTest {
         check.that("the face", due.equals(seen), seen + " instead of " + due);
         check.due("NONE", HoldTwo.NONE, -1);
         check.due("HIDDEN", HoldTwo.HIDDEN, -1000000);
+        for (Class<?> inside : HoldTwo.class.getDeclaredClasses()) {
+            check.that(inside.getName(), Modifier.isStatic(inside.getModifiers()), "is not static");
+            for (Method method : inside.getDeclaredMethods()) {
+                boolean isOther = seen.stream().noneMatch(told -> told.contains(" " + method.getName() + "("));
+                check.that(inside.getName(), isOther, method.getName() + " bears a name of the face");
+            }
+        }
         check.that("final", Modifier.isFinal(HoldTwo.class.getModifiers()), "the class is not final");
         check.finish();
     }

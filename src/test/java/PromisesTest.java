@@ -165,7 +165,7 @@ public final class PromisesTest {
     private static void faultOfLaws() {
         String[] good = {"y:1", "y:0009", "y:a+b-g*h/m", "y:[e]", "y:a=b?1", "y:!a=b?1", "y:(a=b)?1", "y:a=1&b=2|!(m<3)?4;y:5",
             "y:[[[[[[a]]]]]]", "y:!!!!!!a=b?1", "y:((((((a=b))))))?1", "y:!(!(!(a=1)))?1", "y:(!([a]=1))&!(!([a]=1))?[1]",
-            "y : 1 2 + [ 3 ] ; y : a > b ? 1"};
+            "y : 1 2 + [ 3 ] ; y : a > b ? 1", "y:a=[[[[[[b]]]]]]?[[[[[[a]]]]]]"};
         for (String text : good) {
             faultOf(1, text, NONE);
         }
@@ -210,6 +210,7 @@ public final class PromisesTest {
         faultOf(1, "y:[[[[[[[a]]]]]]]", 8);
         faultOf(1, "y:!!!!!!!a=b?1", 8);
         faultOf(1, "y:(((((((a=b)))))))?1", 8);
+        faultOf(1, "y:a=b?[[[[[[[a]]]]]]]", 12);
         faultOf(1, "y:!(!(!([a]=1)))?1", 8);
         faultOf(1, "y:a=1&!(!(!([a]=1)))?1", 12);
     }
