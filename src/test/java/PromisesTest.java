@@ -263,6 +263,10 @@ public final class PromisesTest {
         game.law(1, 3);
         due("game", Check.text(game, 0, ROW), 3);
         due("line", Check.text(game, 2, "ab;-;ab,cb2"), 3);
+        Check.tape(game, "ab");
+        due("no such sort, of what would be a line", game.text(3), NONE);
+        due("no such sort, of what would be a line", game.text(-1), NONE);
+        due("the tape is as it was", game.count(2), 2);
         game.image();
         due("made", game.hold(1, NONE, 0), 1);
         due("a game with a fault", Check.text(game, 0, "X;"), NONE);
@@ -692,6 +696,8 @@ public final class PromisesTest {
         due("for the one who moves", away.match(0, 1, 0, 1), 1);
         HoldTwo two = game("X...;ab,ac,ad;cd/;n", "y:g", "y:g");
         due("X holds out c and d", two.match(1, 1, 0, 1), 1);
+        HoldTwo shut = game("X...O;ab,ac,ad,be;c/;n", "y:g", "y:1-m");
+        due("X holds out b, which shuts O in, and c, the first of the others; O picks c", shut.match(1, 1, 0, 1), 1);
     }
 
     private static void waysByValue() {
@@ -700,6 +706,7 @@ public final class PromisesTest {
         due("O may pick", game.match(2, 2, 0, 1), 1);
         due("O picks of b and c the lesser", game.match(0, 2, 0, 1), 0);
         HoldTwo star = game(STAR, "y:g");
+        due("X holds out the first two, O picks c", star.match(0, 2, 0, 1), 0);
         due("X holds out b and c, O picks c", star.match(2, 2, 0, 1), 0);
         HoldTwo row = game(ROW, "y:b=0?1");
         row.set(15);

@@ -32,6 +32,7 @@ final class Told {
     private int made = 0;
     private Object[] image = null;
     private int[][] tables = new int[2][];
+    private final List<String> rows = new ArrayList<>();
 
     /** A move: its code, and the stand behind it. */
     private static final class Move {
@@ -130,6 +131,7 @@ final class Told {
         line = null;
         image = null;
         tables = new int[2][];
+        rows.clear();
     }
 
     boolean law(int what, int law) {
@@ -584,8 +586,9 @@ final class Told {
         if (places == 0 || number < NONE || number >= size()) {
             return NONE;
         }
-        List<String> rows = new ArrayList<>();
-        addRows("", rows);
+        if (rows.isEmpty()) {
+            addRows("");
+        }
         if (number == NONE) {
             return rows.size();
         }
@@ -601,7 +604,7 @@ final class Told {
         return made.first();
     }
 
-    private void addRows(String row, List<String> rows) {
+    private void addRows(String row) {
         if (row.length() == places) {
             if (isTurning(row)) {
                 rows.add(row);
@@ -611,7 +614,7 @@ final class Told {
         for (int i = 0; i < places; i++) {
             char letter = (char) ('a' + i);
             if (row.indexOf(letter) < 0) {
-                addRows(row + letter, rows);
+                addRows(row + letter);
             }
         }
     }

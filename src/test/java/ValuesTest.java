@@ -3,6 +3,9 @@ import java.util.Random;
 /** Every stand of many games: values, proofs, pairs, rounds, threats and all that is made of them. */
 public final class ValuesTest {
     private static final int GAMES = 90;
+    private static final String[] NETS = {"ab", "ab,cb,de", "ab,cd,ef", "ga,ab,bc,ca,de,ef,fd", "ab,bc,ca,de,ef,fd",
+        "ad,ae,af,ag,bd,be,bf,bg,cd,ce,cf,cg", "da,db,dc,de,df,dg", "ab,bc,cd,de,ef,fg", "ab,bc,cd,de,ef,fg,ga",
+        "ab,bc,cd,da,ae,be,ce,de", "ab,ac,bc,cd,de,df,ef", "ab,ac,ad,ae,bc,bd,be,cd,ce,de,ef,fg", "ac,bc,cd,ce,ef,eg"};
     private final Check check;
     private final HoldTwo game = new HoldTwo();
     private final Told told = new Told();
@@ -24,11 +27,15 @@ public final class ValuesTest {
                 test.tell(1, texts.law());
                 test.judgeBy(0);
             }
+            test.tell(1, texts.law());
+            test.waysBy(test.told.count(1) - 1);
             test.go();
         }
+        nets(check);
         large(check, "X.X.O.O;ab,bc,cd,de,ef,fg,ga,ad;efg/abc;t", "y:g>1?1;y:b=0?1;y:m<2?0-1");
         large(check, "XX...OO;ab,bc,cd,de,ef,fg,ga,ae;fg/ab;pn", "y:g=2?1");
         large(check, "XX....OO;ab,bc,de,ef,gh,ad,dg,be,eh;gh/ab;n", "y:g>1?1;y:h>1?0-1");
+        large(check, "XX..X..OO;ab,bc,de,ef,gh,hi,ad,dg,be,eh,cf,fi;ghi/abc;t", "y:g>1?1;y:b=0|a>b+2?1;y:m<3&g=0?0-1");
         check.finish();
     }
 
@@ -45,6 +52,10 @@ public final class ValuesTest {
 
     private void judgeBy(int law) {
         same("law(0)", game.law(0, law) ? 1 : 0, told.law(0, law) ? 1 : 0);
+    }
+
+    private void waysBy(int law) {
+        same("law(1)", game.law(1, law) ? 1 : 0, told.law(1, law) ? 1 : 0);
     }
 
     private void same(String call, int got, int want) {
@@ -76,8 +87,28 @@ public final class ValuesTest {
             }
             same(at + "turnings", game.turnings(number), told.turnings(number));
             same(at + "over()", game.over(), told.over());
+            for (int ways = 0; ways < 16 && number % 3 == 0; ways++) {
+                int most = 1 + number % 4;
+                same(at + "match " + ways, game.match(ways / 4, ways % 4, number, most), told.match(ways / 4, ways % 4, number, most));
+            }
         }
         sums();
+    }
+
+    /** Nets of seven places with some order: their turnings, and the lowest of some stands. */
+    private static void nets(Check check) {
+        Random random = new Random(5000);
+        for (String net : NETS) {
+            for (String goals : new String[] {"", ";a/", ";ab/c", ";/efg"}) {
+                ValuesTest test = new ValuesTest(check);
+                test.tell(0, ".......;" + net + goals);
+                test.same("turnings", test.game.turnings(-1), test.told.turnings(-1));
+                for (int i = 0; i < 100; i++) {
+                    int number = random.nextInt(test.size());
+                    test.same("turnings(" + number + ")", test.game.turnings(number), test.told.turnings(number));
+                }
+            }
+        }
     }
 
     private void sums() {
