@@ -124,6 +124,9 @@ final class PromiseSentences {
         said.due("fault", game.fault(0), 4);
         said.due("what was behind is gone", game.feed(0x61000000, 0, 0, 0, 0), 5);
         said.due("aa is there now", game.fault(0), 4);
+        Check.tape(game, "X.   ");
+        said.due("two", game.end(2), true);
+        said.due("no blank is left behind them", game.fault(0), 2);
         said.due("none", game.end(0), true);
         said.due("empty", game.count(2), 0);
         said.due("none of none", game.end(0), true);

@@ -332,6 +332,10 @@ final class TextSentences {
         said.fault(1, "y:((((((!a=1))))))?1", 8);
         said.fault(1, "y:((((((1=[1]))))))?1", 10);
         said.fault(1, "y:[[[[[[1]+[[1]]]]]]]", 12);
+        said.good(1, "y:!a=[[[[[1]]]]]?1", "y:![[[[[a]]]]]=[[[[[1]]]]]?1", "y:!a=1&[[[[[[1]]]]]]=1?1");
+        said.fault(1, "y:!a=[[[[[[1]]]]]]?1", 10);
+        said.fault(1, "y:![[[[[[a]]]]]]=1?1", 8);
+        said.fault(1, "y:a=1&!(a=1|([[[[1]]]]=1))?1", 16);
         holds("!!!!!!1=1", true);
         holds("!(!(!(1=1)))", false);
         sumIs("[[[[[1]]]]]", 1);
@@ -403,6 +407,12 @@ final class TextSentences {
         winner("y:1=2?1", 0);
         winner("y:1=2?1;y:1=3?1", 0);
         winner("y:1=2?0-1;y:1=3?0-1;y:1=1?1", 1);
+        HoldTwo game = said.game("X.O;ab,bc;/;p");
+        said.due("a longer one is asked for its fault", Check.fault(game, 1, "y:1=2?1;y:1=2?1;y:1"), NONE);
+        said.due("text(1)", Check.text(game, 1, "y:1=2?1"), 0);
+        said.due("law(0,0)", game.law(0, 0), true);
+        said.due("a move is made", game.hold(1, 99, 0), 1);
+        said.due("0 without", game.over(), 0);
     }
 
     /** Whom a law gives the win behind X's first move: 1 X, 2 O, 0 nobody. */

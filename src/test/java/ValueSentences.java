@@ -142,6 +142,9 @@ final class ValueSentences {
         said.due("eight moves of X and seven of O", corridor.value(NONE, 1), 99985);
         said.due("of two held out O picks the one back", corridor.value(NONE, 0), 0);
         said.due("O's turn", corridor.value(3, 1), -99984);
+        HoldTwo empty = said.game("..;ab;/;p", "y:1");
+        said.due("who passes first has won", empty.value(0, 0), 99999);
+        said.due("be it O", empty.value(1, 1), 99999);
         said.due("the longest", said.game(DEEP, TAKES).all(6), 11);
         said.due("the longest plainly", said.game(DEEP, TAKES).all(7), 5);
     }
@@ -286,6 +289,8 @@ final class ValueSentences {
         goal.set(18);
         said.due("to stay wins, to go is 0", goal.value(NONE, 0), 0);
         roundIs(goal, 5, 4);
+        // d to a loses, so that d to b and a pass are held out; from b on it goes to c and back
+        roundIs(said.game("...X;da,db,bc;a/;p", "y:0-g"), 5, 4);
         HoldTwo won = said.game(LAYERS, "y:g");
         roundIs(won, NONE, NONE);
         won.set(3);

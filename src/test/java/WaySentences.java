@@ -58,6 +58,8 @@ final class WaySentences {
         winner("O's d and e, for O", byO, 0, 1, 1, 2);
         winner("by m: b shuts O in", said.game("X...O;ab,ac,ad,be;c/;n", "y:g", "y:1-m"), 1, 1, 1, 1);
         winner("one alone", said.game("X..;ab;b/;n", "y:g", "y:g"), 1, 1, 1, 1);
+        // X holds out b and d, O picks b; O has one move alone; X holds out a and e, O picks a
+        winner("two of two behind two of three", said.game("X....O.;ab,ac,ad,be,fg;de/", "y:g", "y:g"), 1, 0, 3, 0);
         said.that("picks that with the lesser WORTH (of like ones the first);");
         winner("c of b and c", said.game(STAR, "y:g", "y:g"), 0, 1, 1, 0);
         winner("b of b and c, for the one who moves", said.game(STAR, "y:g", "y:0-g"), 0, 1, 1, 1);
