@@ -1444,16 +1444,12 @@ public final class HoldTwo {
             return number >= 0 && number < plain.length ? plain[number] : 0;
         }
 
-        private int factsAt(int number) {
-            return number >= 0 && number < facts.length ? facts[number] : 1;
-        }
-
         private int movesAt(int number) {
-            return factsAt(number) >> 2;
+            return number >= 0 && number < facts.length ? facts[number] >> 2 : 0;
         }
 
         private int outcomeAt(int number) {
-            return (factsAt(number) & 3) - 1;
+            return number >= 0 && number < facts.length ? (facts[number] & 3) - 1 : 0;
         }
 
         void learnHeld() {

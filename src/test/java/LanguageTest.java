@@ -1,4 +1,6 @@
 import java.io.IOException;
+import java.lang.reflect.Field;
+import java.lang.reflect.Modifier;
 import java.nio.charset.StandardCharsets;
 import java.nio.file.Files;
 import java.nio.file.Path;
@@ -14,6 +16,7 @@ public final class LanguageTest {
         "\\bprotected\\b", "\\bpackage\\b", "\\bstatic\\s*\\{", "\\bwhile\\s*\\(true", "for\\s*\\(;;"};
     private static final int MOST_LINES = 60;
     private static final int MOST_CLASSES = 12;
+    private static final int MOST_FIELDS = 20;
 
     private LanguageTest() {
     }
@@ -36,7 +39,21 @@ public final class LanguageTest {
         int classes = code.split("\\bclass\\s").length - 1;
         check.that("classes", classes <= MOST_CLASSES, classes + " classes");
         methods(check, code);
+        fields(check, HoldTwo.class);
+        for (Class<?> inside : HoldTwo.class.getDeclaredClasses()) {
+            fields(check, inside);
+        }
         check.finish();
+    }
+
+    private static void fields(Check check, Class<?> owner) {
+        int own = 0;
+        for (Field field : owner.getDeclaredFields()) {
+            own += Modifier.isStatic(field.getModifiers()) ? 0 : 1;
+            check.that(owner + " " + field.getName(), !Modifier.isStatic(field.getModifiers()) || Modifier.isFinal(field.getModifiers()),
+                "is static and not final");
+        }
+        check.that(owner.toString(), own <= MOST_FIELDS, own + " fields");
     }
 
     private static void methods(Check check, String code) {
