@@ -31,13 +31,13 @@ final class Said {
             System.out.println("without " + DOCUMENT + " nobody knows whether all words are asked for");
             return;
         }
-        Matcher parts = Pattern.compile("(?s)## (Terms|Promise \\d+)[^\\n]*\\n(.*?)(?=\\n## |$)").matcher(read());
+        Matcher parts = Pattern.compile("(?s)(?:^|\\n)##? ([^:\\n]+)[^\\n]*\\n(.*?)(?=\\n## |$)").matcher(read());
         while (parts.find()) {
-            String text = parts.group(2).replaceAll("```(text)?", " ").replaceAll("==== \\d\\.", " ");
+            String text = parts.group(2).replaceAll("```(text|java)?", " ").replaceAll("==== \\d\\.", " ");
             sections.put(parts.group(1), plain(text));
             quoted.put(parts.group(1), new BitSet());
         }
-        check.due("sections of the document", sections.size(), 29);
+        check.due("sections of the document", sections.size(), 33);
     }
 
     private static String read() {

@@ -5,6 +5,7 @@ public final class SentencesTest {
 
     public static void main(String[] args) {
         Said said = new Said();
+        new FirstSentences(said).ask();
         new TextSentences(said).ask();
         new StandSentences(said).ask();
         new ValueSentences(said).ask();
