@@ -1569,7 +1569,10 @@ public final class HoldTwo {
 
         /** One more move of a stand has got its value, which may settle the stand. */
         private void hear(int number, int value) {
-            if (number < 0 || number >= filled.length || filled[number] != 0 || waiting >= queue.length) {
+            if (number < 0 || number >= filled.length || number >= tally.length || waiting >= queue.length) {
+                return;
+            }
+            if (filled[number] != 0) {
                 return;
             }
             tally[number] += value > 0 ? 1 : BAD;
